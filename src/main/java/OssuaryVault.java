@@ -338,6 +338,7 @@ public final class OssuaryVault {
     }
 
     public long digest() {
+        shelf.survey();
         return withReading(withShelf(withDesk(DIGEST_START)));
     }
 
@@ -354,7 +355,6 @@ public final class OssuaryVault {
     }
 
     private long withShelf(long before) {
-        shelf.survey();
         long d = before;
         for (int i = 0; i < PLACES; i++) {
             Volume one = shelf.at(i);

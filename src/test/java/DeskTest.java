@@ -199,6 +199,10 @@ final class DeskTest {
         packs(Rows.row());
         packs(Rows.row(5), 0, 5);
         packs(Rows.row(5, 5), 1, 5, 5);
+        packs(Rows.row(0), 0, 0);
+        packs(Rows.row(0, 0), 1, 0, 0);
+        packs(Rows.row(7, 0, 0), 2, 7, 0, 0);
+        packs(Rows.row(0, 0, 0, 0, 9, 0, 0), 130, 0, 2, 9, 0, 0);
         packs(Rows.row(5, 5, 5), 129, 5);
         packs(Rows.row(5, 5, 5, 6), 129, 5, 0, 6);
         packs(Rows.row(1, 2, 2, 2), 0, 1, 129, 2);

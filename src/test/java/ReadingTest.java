@@ -382,6 +382,8 @@ final class ReadingTest {
         dueFile("past it", z, 0, 1, 0, NINE);
         dueBad("past it", z, 1, 2, 11);
         dueFile("past it", z, 2, 3, 22, NINE);
+        Due.is("P34 open() again", 0, () -> z.open());
+        Due.is("P38 found() again", 3, () -> z.found());
         int[] cutOff = nine(4);
         cutOff[5] = 4;
         OssuaryVault w = forged(Rows.join(nine(1), cutOff));
@@ -406,6 +408,11 @@ final class ReadingTest {
         dueBad("behind the stream", x, 6, 0, 65535);
         dueBad("behind the stream too", x, 7, 258, 200);
         dueFile("told twice", x, 8, 2, 0, FIVES);
+        OssuaryVault none = forgedWithIndex(Rows.join(files, Rows.file(0, 4, 65535)),
+                Rows.index(258, 10, 0, 4, 21, 0, 4, 21, 1));
+        dueBad("told to be empty", none, 0, 258, 10);
+        dueFile("told to be empty", none, 1, 4, 21);
+        dueBad("told not to be empty", none, 2, 4, 21);
         int[] flag = nine(258);
         flag[1] = 2;
         OssuaryVault y = forgedWithIndex(flag, Rows.index(258, 0, 3));
@@ -494,6 +501,11 @@ final class ReadingTest {
         dueBad("241 bytes by an index", byIndex, 0, 1, 0);
         OssuaryVault cut = forged(Rows.file(0, 1, Rows.check(full), longer));
         dueBad("241 bytes with the check of 240", cut, 0, 1, 0);
+        OssuaryVault again = forged(Rows.join(nine(1), new int[300]));
+        dueFile("as it was before", again, 0, 1, 0, NINE);
+        Rows.force(again, 0, 10 + 5, 241);
+        Due.is("P34 open() with its length changed", 0, () -> again.open());
+        dueBad("241 bytes where a good file was", again, 0, 1, 0);
         int[] run = Rows.times(3, 241);
         OssuaryVault z = forged(Rows.file(1, 1, Rows.check(run), 255, 3, 238, 3));
         dueBad("241 bytes unpacked", z, 0, 1, 0);
@@ -592,6 +604,13 @@ final class ReadingTest {
         Due.is("P45 cost() by what is there", 4 * 20 / 3.0, () -> x.cost());
         x.build(3, 1);
         Due.is("P45 cost()", 4 * 23 / 3.0, () -> x.cost());
+        Rows.storeFile(x, 1, 5);
+        Due.is("P45 cost() with another file", 4 * 23 / 4.0, () -> x.cost());
+        x.remove(2);
+        Due.is("P45 cost() with a byte alone", 4 * 23 / 1.0, () -> x.cost());
+        x.remove(1);
+        Due.is("P45 cost() with no file", 0.0, () -> x.cost());
+        Rows.storeFile(x, 2, NINE);
         x.cut(0, 5);
         x.copy(0, 9);
         x.lose(1);
@@ -605,6 +624,12 @@ final class ReadingTest {
     private static void digest() {
         OssuaryVault x = new OssuaryVault();
         Due.is("P46 digest() of a new object", slowDigest(x, false), () -> x.digest());
+        OssuaryVault first = small();
+        first.build(2, 1);
+        OssuaryVault second = small();
+        second.build(2, 1);
+        Due.is("P46 digest() ahead of all questions", slowDigest(first, false),
+                () -> second.digest());
         Rows.storeFile(x, 2, FIVES);
         Rows.storeFile(x, 65535, Rows.noise(4, 200));
         Due.is("P46 digest() with files", slowDigest(x, false), () -> x.digest());

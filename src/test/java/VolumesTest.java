@@ -110,6 +110,11 @@ final class VolumesTest {
         Due.is("P19 build(2, 1) behind build(10, 6)", 27, () -> x.build(2, 1));
         dueVolumes("P19 anew", x, SMALL, 2, 1);
         Due.state("P19 closes what was open", () -> x.opened());
+        Rows.storeFile(x, 7, Rows.noise(8, 200));
+        x.build(2, 1);
+        x.remove(7);
+        Due.is("P19 build(10, 2) behind a longer stream", 6, () -> x.build(10, 2));
+        dueVolumes("P19 behind a longer stream", x, SMALL, 10, 2);
     }
 
     private static void buildWrong() {
@@ -183,6 +188,10 @@ final class VolumesTest {
         x.spoil(1, 9, 99);
         Due.is("P23 sign(1) mends the check", right, () -> x.sign(1));
         dueVolumes("P23 as before", x, SMALL, 2, 1);
+        x.spoil(1, 9, 1);
+        Due.is("P28 isSound(1) with another check", false, () -> x.isSound(1));
+        Due.is("P23 sign(1)", right, () -> x.sign(1));
+        Due.is("P28 isSound(1) signed", true, () -> x.isSound(1));
         x.spoil(0, 12, 3);
         int[] bytes = Rows.bytesOf(x, 0);
         int want = Rows.check(Rows.join(Rows.part(bytes, 0, 8), Rows.part(bytes, 10, 37)));
@@ -270,6 +279,11 @@ final class VolumesTest {
         Due.is("P27 copy(0, 0)", 37, () -> x.copy(0, 0));
         Due.is("P27 it is as it was", Rows.text(first), () -> Rows.text(Rows.bytesOf(x, 0)));
         Due.is("P27 it is sound", true, () -> x.isSound(0));
+        Due.is("P28 isSound(1)", true, () -> x.isSound(1));
+        Due.is("P27 copy(9, 1) of one not sound", 37, () -> x.copy(9, 1));
+        Due.is("P28 isSound(1) then", false, () -> x.isSound(1));
+        Due.is("P27 copy(0, 1) of a sound one", 37, () -> x.copy(0, 1));
+        Due.is("P28 isSound(1) again", true, () -> x.isSound(1));
         x.cut(9, 3);
         Due.is("P27 copy(9, 1), in place of a longer one", 3, () -> x.copy(9, 1));
         Due.is("P27 the short copy", "[87, 0, 2]", () -> Rows.text(Rows.bytesOf(x, 1)));
@@ -336,13 +350,19 @@ final class VolumesTest {
         x.cut(0, 10);
         Rows.force(x, 0, 2, 1, 0, 0, 0, 0, 0);
         Due.is("P28 no bytes of stream and body", true, () -> x.isSound(0));
+        x.copy(0, 5);
+        Rows.force(x, 5, 2, 0, 1);
+        Due.is("P28 D is 0, and there is no body", false, () -> x.isSound(5));
+        Rows.force(x, 5, 1, 1, 1, 1);
+        Due.is("P28 a parity volume without a body", true, () -> x.isSound(5));
+        x.lose(5);
         Due.is("P30 present()", 1, () -> x.present());
         Due.is("P34 open()", 0, () -> x.open());
         Due.is("P35 opened()", 0, () -> x.opened());
         Due.is("P37 hasIndex()", false, () -> x.hasIndex());
         Due.is("P38 found()", 0, () -> x.found());
         Due.index("P36 streamAt(0)", () -> x.streamAt(0));
-        Due.is("P33 repair()", 5, () -> x.repair());
+        Due.is("P33 repair()", 4, () -> x.repair());
         Due.is("P20 sizeOf(0)", 10, () -> x.sizeOf(0));
     }
 
@@ -443,6 +463,10 @@ final class VolumesTest {
         Due.state("P33 repair() unopened", () -> x.repair());
         x.open();
         Due.is("P33 repair() of whole volumes", 0, () -> x.repair());
+        x.spoil(3, 0, 1);
+        Due.is("P33 repair() of a first byte", 1, () -> x.repair());
+        x.spoil(5, 27, 1);
+        Due.is("P33 repair() of a last byte", 1, () -> x.repair());
         x.lose(0);
         x.spoil(1, 15, 1);
         x.cut(2, 0);
@@ -468,6 +492,7 @@ final class VolumesTest {
     private static void repairPadding() {
         OssuaryVault x = small();
         x.build(5, 2);
+        x.spoil(4, 19, 7);
         x.spoil(4, 20, 7);
         x.sign(4);
         Due.is("P34 open() with a padding that is not 0", 0, () -> x.open());
