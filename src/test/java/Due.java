@@ -42,6 +42,14 @@ final class Due {
         fails(call, IndexOutOfBoundsException.class, made);
     }
 
+    static int asked() {
+        return asked;
+    }
+
+    static int wrong() {
+        return wrong;
+    }
+
     static void end(String test) {
         System.out.println(test + ": " + asked + " asked, " + wrong + " wrong");
         if (wrong != 0) {

@@ -1,4 +1,3 @@
-import java.lang.reflect.InvocationTargetException;
 import java.lang.reflect.Method;
 import java.util.ArrayList;
 import java.util.HashMap;
@@ -10,8 +9,8 @@ import java.util.Random;
 public final class ModelTest {
     private static final int RUNS = 300;
     private static final int CALLS = 512;
-    private static final Map<String, Method> CLASS = methods(OssuaryVault.class);
-    private static final Map<String, Method> MODEL = methods(Model.class);
+    private static final Map<String, Method> CLASS = Calls.of(OssuaryVault.class);
+    private static final Map<String, Method> MODEL = Calls.of(Model.class);
     private static final List<String> NAMES = CLASS.keySet().stream().sorted().toList();
 
     private final Random random;
@@ -45,17 +44,6 @@ public final class ModelTest {
         }
     }
 
-    private static Map<String, Method> methods(Class<?> kind) {
-        Map<String, Method> all = new HashMap<>();
-        for (Method m : kind.getDeclaredMethods()) {
-            if (java.lang.reflect.Modifier.isPublic(m.getModifiers())) {
-                m.setAccessible(true);
-                all.put(m.getName(), m);
-            }
-        }
-        return all;
-    }
-
     private boolean passes(int run) {
         while (right && told.size() < CALLS - 60) {
             step();
@@ -71,8 +59,8 @@ public final class ModelTest {
 
     /** The answer; the least number for an exception. */
     private long call(String name, Object... args) {
-        String got = answer(CLASS.get(name), x, args);
-        String want = answer(MODEL.get(name), model, args);
+        String got = Calls.answer(CLASS.get(name), x, args);
+        String want = Calls.answer(MODEL.get(name), model, args);
         told.add(name + java.util.Arrays.toString(args) + "=" + got);
         if (!got.startsWith("throws")) {
             answered.merge(name, 1, Integer::sum);
@@ -82,16 +70,6 @@ public final class ModelTest {
             right = false;
         }
         return got.matches("-?\\d+") ? Long.parseLong(got) : Long.MIN_VALUE;
-    }
-
-    private static String answer(Method m, Object on, Object[] args) {
-        try {
-            return String.valueOf(m.invoke(on, args));
-        } catch (InvocationTargetException e) {
-            return "throws." + e.getCause().getClass().getSimpleName();
-        } catch (IllegalAccessException e) {
-            throw new IllegalStateException(e);
-        }
     }
 
     private int below(int n) {

@@ -54,22 +54,14 @@ final class ReadingTest {
 
     /** An open archive of one volume, whose stream is as it is wanted. */
     private static OssuaryVault forged(int... stream) {
-        OssuaryVault x = new OssuaryVault();
-        for (int key = 0; key < 16; key++) {
-            x.noise(key, 240);
-            x.store(key);
-        }
-        x.build(1, 0);
-        x.cut(0, 10 + stream.length);
-        Rows.force(x, 0, 4, Rows.join(Rows.word(stream.length), Rows.word(stream.length)));
-        Rows.force(x, 0, 10, stream);
+        OssuaryVault x = Rows.forged(stream);
         Due.is("P34 open() of a forged stream", 0, () -> x.open());
         Due.is("P36 the forged stream", Rows.text(stream), () -> Rows.text(Rows.stream(x)));
         return x;
     }
 
     private static OssuaryVault forgedWithIndex(int[] files, int... index) {
-        return forged(Rows.join(files, index, Rows.tail(index.length / 6, files.length, index)));
+        return forged(Rows.withIndex(files, index));
     }
 
     private static void dueFile(String what, OssuaryVault x, int file, int key, int place,

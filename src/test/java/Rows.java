@@ -137,6 +137,29 @@ final class Rows {
         return row;
     }
 
+    /** A full desk, and one volume whose stream is as it is wanted: not open yet. */
+    static OssuaryVault forged(int... stream) {
+        OssuaryVault x = new OssuaryVault();
+        for (int key = 0; key < 16; key++) {
+            x.noise(key, 240);
+            x.store(key);
+        }
+        x.build(1, 0);
+        x.cut(0, 10 + stream.length);
+        force(x, 0, 4, join(word(stream.length), word(stream.length)));
+        force(x, 0, 10, stream);
+        return x;
+    }
+
+    static int[] withIndex(int[] files, int... index) {
+        return join(files, withIndexAt(files.length, index));
+    }
+
+    /** An index and the six behind it, for a stream in which they stand at this place. */
+    static int[] withIndexAt(int place, int... index) {
+        return join(index, tail(index.length / 6, place, index));
+    }
+
     /** Makes the bytes of a volume from a place on what is wanted, and its check right. */
     static void force(OssuaryVault x, int volume, int place, int... want) {
         for (int i = 0; i < want.length; i++) {

@@ -58,7 +58,8 @@ final class VolumesTest {
         return sum;
     }
 
-    private static void dueVolumes(String what, OssuaryVault x, int[] stream, int data, int parity) {
+    private static void dueVolumes(String what, OssuaryVault x, int[] stream, int data,
+            int parity) {
         for (int i = 0; i < 16; i++) {
             int place = i;
             if (i < data + parity) {
