@@ -143,6 +143,8 @@ final class ReadingEdgesTest {
                 ReadingEdgesTest::costNotCut);
         Sentences.ask(46, "which wraps around as a 64-bit integer", ReadingEdgesTest::digestWraps);
         Sentences.ask(46, "1 if an archive is open, 0 if not", ReadingEdgesTest::digestOpenOrNot);
+        Sentences.ask(46, "and for each file keyFound(), placeFound(), isGood() (1 or 0), "
+                + "lengthFound().", ReadingEdgesTest::digestOfMost);
     }
 
     private interface Asked {
@@ -566,8 +568,16 @@ final class ReadingEdgesTest {
                     forged(Rows.file(1, 1, Rows.check(content), apart)));
         }
         int[] first = Rows.noise(5, 240);
+        OssuaryVault stale = forged(Rows.join(nine(1), new int[300]));
+        dueFile("a good file", stale, 0, NINE);
+        Rows.force(stale, 0, 10 + 5, 241);
+        Due.is("open() with 241 bytes where a good file was", 0, () -> stale.open());
+        dueRoom("241 bytes where a good file was", 241, stale);
         OssuaryVault cut = forged(Rows.file(0, 1, Rows.check(first), Rows.noise(5, 241)));
         dueBad("241 bytes with the check of the first 240", cut, 0);
+        OssuaryVault one = forged(Rows.file(1, 1, Rows.check(Rows.times(3, 240)), 255, 3, 237, 3, 0,
+                3));
+        dueBad("241 bytes, the last one apart, with the check of the first 240", one, 0);
         OssuaryVault run = forged(Rows.file(1, 1, Rows.check(Rows.times(3, 240)), 255, 3, 237, 3,
                 128, 3));
         dueBad("242 bytes in runs with the check of the first 240", run, 0);
@@ -668,6 +678,15 @@ final class ReadingEdgesTest {
         Due.is("found() of it", 3, () -> x.found());
         x.build(1, 0);
         Due.state("found() built anew", () -> x.found());
+        OssuaryVault y = forged(Rows.join(nine(1), fives(2)));
+        String before = read(y);
+        Due.is("open() again, without an index", 0, () -> y.open());
+        Due.is("what is read then", before, () -> read(y));
+        Rows.force(y, 0, 10 + 4, 0, 241);
+        y.cut(0, 10 + 20);
+        Rows.force(y, 0, 4, 0, 20, 0, 20);
+        Due.is("open() with the first file too long", 0, () -> y.open());
+        Due.is("found() then", 0, () -> y.found());
     }
 
     // ---- asking
@@ -675,12 +694,14 @@ final class ReadingEdgesTest {
     private static void noneToSix() {
         OssuaryVault none = new OssuaryVault();
         Due.is("open() without volumes", -1, () -> none.open());
-        OssuaryVault x = three();
+        OssuaryVault x = Rows.forged();
+        x.build(1, 0);
+        String stream = Rows.text(Rows.part(Rows.bytesOf(x, 0), 10, 4080));
         x.build(10, 6);
         for (int i = 0; i < 7; i++) {
             int lost = i;
             Due.is("open() with " + lost + " data volumes lost", lost, () -> x.open());
-            Due.is("its stream", Rows.text(streamOfThree()), () -> Rows.text(Rows.stream(x)));
+            Due.is("its stream", stream, () -> Rows.text(Rows.stream(x)));
             if (i < 6) {
                 x.lose(9 - i);
             }
@@ -979,5 +1000,19 @@ final class ReadingEdgesTest {
         Due.is("open() fails", -1, () -> x.open());
         x.build(1, 0);
         Due.is("digest(), built again", closed, () -> x.digest());
+    }
+
+    private static void digestOfMost() {
+        OssuaryVault none = new OssuaryVault();
+        Due.is("digest() of a new object", Rows.digest(none, false), () -> none.digest());
+        int[] files = new int[0];
+        for (int i = 0; i < 41; i++) {
+            files = Rows.join(files, i % 3 == 1 ? Rows.file(0, i, 5, NINE) : fives(i));
+        }
+        OssuaryVault x = forged(files);
+        Due.is("digest() of a full desk, and 40 files found, good or not", Rows.digest(x, true),
+                () -> x.digest());
+        x.build(10, 6);
+        Due.is("digest() of 16 volumes", Rows.digest(x, false), () -> x.digest());
     }
 }

@@ -615,66 +615,30 @@ final class ReadingTest {
 
     private static void digest() {
         OssuaryVault x = new OssuaryVault();
-        Due.is("P46 digest() of a new object", slowDigest(x, false), () -> x.digest());
+        Due.is("P46 digest() of a new object", Rows.digest(x, false), () -> x.digest());
         OssuaryVault first = small();
         first.build(2, 1);
         OssuaryVault second = small();
         second.build(2, 1);
-        Due.is("P46 digest() ahead of all questions", slowDigest(first, false),
+        Due.is("P46 digest() ahead of all questions", Rows.digest(first, false),
                 () -> second.digest());
         Rows.storeFile(x, 2, FIVES);
         Rows.storeFile(x, 65535, Rows.noise(4, 200));
-        Due.is("P46 digest() with files", slowDigest(x, false), () -> x.digest());
+        Due.is("P46 digest() with files", Rows.digest(x, false), () -> x.digest());
         x.build(3, 2);
-        Due.is("P46 digest() built", slowDigest(x, false), () -> x.digest());
+        Due.is("P46 digest() built", Rows.digest(x, false), () -> x.digest());
         x.lose(0);
         x.spoil(1, 12, 1);
         x.cut(1, 20);
         x.copy(2, 15);
-        Due.is("P46 digest() with losses", slowDigest(x, false), () -> x.digest());
+        Due.is("P46 digest() with losses", Rows.digest(x, false), () -> x.digest());
         Due.is("P34 open()", 2, () -> x.open());
-        Due.is("P46 digest() open", slowDigest(x, true), () -> x.digest());
-        Due.is("P46 digest() again", slowDigest(x, true), () -> x.digest());
+        Due.is("P46 digest() open", Rows.digest(x, true), () -> x.digest());
+        Due.is("P46 digest() again", Rows.digest(x, true), () -> x.digest());
         x.lose(3);
         Due.is("P34 open() fails", -1, () -> x.open());
-        Due.is("P46 digest() not open", slowDigest(x, false), () -> x.digest());
+        Due.is("P46 digest() not open", Rows.digest(x, false), () -> x.digest());
         OssuaryVault y = forged(Rows.join(nine(1), Rows.file(0, 9, 0, 1, 2), fives(8)));
-        Due.is("P46 digest() without an index", slowDigest(y, true), () -> y.digest());
-    }
-
-    private static long slowDigest(OssuaryVault x, boolean open) {
-        long d = 2473;
-        d = d * 31 + x.files();
-        d = d * 31 + x.streamLength();
-        for (int i = 0; i < x.files(); i++) {
-            d = d * 31 + x.keyOf(i);
-            d = d * 31 + x.lengthOf(i);
-            d = d * 31 + x.checkOf(i);
-            d = d * 31 + x.packedLength(i);
-        }
-        for (int i = 0; i < 16; i++) {
-            d = d * 31 + x.sizeOf(i);
-            d = d * 31 + (x.isSound(i) ? 1 : 0);
-            d = d * 31 + x.numberOf(i);
-            for (int b : Rows.bytesOf(x, i)) {
-                d = d * 31 + b;
-            }
-        }
-        d = d * 31 + x.leader();
-        d = d * 31 + x.present();
-        d = d * 31 + x.spare();
-        d = d * 31 + (open ? 1 : 0);
-        if (open) {
-            d = d * 31 + x.opened();
-            d = d * 31 + (x.hasIndex() ? 1 : 0);
-            d = d * 31 + x.found();
-            for (int i = 0; i < x.found(); i++) {
-                d = d * 31 + x.keyFound(i);
-                d = d * 31 + x.placeFound(i);
-                d = d * 31 + (x.isGood(i) ? 1 : 0);
-                d = d * 31 + x.lengthFound(i);
-            }
-        }
-        return d;
+        Due.is("P46 digest() without an index", Rows.digest(y, true), () -> y.digest());
     }
 }

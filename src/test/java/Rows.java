@@ -168,6 +168,43 @@ final class Rows {
         x.sign(volume);
     }
 
+    /** The digest by the other answers of the class. */
+    static long digest(OssuaryVault x, boolean open) {
+        long d = 2473;
+        d = d * 31 + x.files();
+        d = d * 31 + x.streamLength();
+        for (int i = 0; i < x.files(); i++) {
+            d = d * 31 + x.keyOf(i);
+            d = d * 31 + x.lengthOf(i);
+            d = d * 31 + x.checkOf(i);
+            d = d * 31 + x.packedLength(i);
+        }
+        for (int i = 0; i < 16; i++) {
+            d = d * 31 + x.sizeOf(i);
+            d = d * 31 + (x.isSound(i) ? 1 : 0);
+            d = d * 31 + x.numberOf(i);
+            for (int b : bytesOf(x, i)) {
+                d = d * 31 + b;
+            }
+        }
+        d = d * 31 + x.leader();
+        d = d * 31 + x.present();
+        d = d * 31 + x.spare();
+        d = d * 31 + (open ? 1 : 0);
+        if (open) {
+            d = d * 31 + x.opened();
+            d = d * 31 + (x.hasIndex() ? 1 : 0);
+            d = d * 31 + x.found();
+            for (int i = 0; i < x.found(); i++) {
+                d = d * 31 + x.keyFound(i);
+                d = d * 31 + x.placeFound(i);
+                d = d * 31 + (x.isGood(i) ? 1 : 0);
+                d = d * 31 + x.lengthFound(i);
+            }
+        }
+        return d;
+    }
+
     static String text(int[] row) {
         return Arrays.toString(row);
     }

@@ -337,27 +337,6 @@ final class VolumesEdgesTest {
         Due.is("isSound(0) of none", false, () -> x.isSound(0));
         x.lose(0);
         Due.is("isSound(0) without a volume", false, () -> x.isSound(0));
-        OssuaryVault y = checkEndsIn0();
-        Due.is("isSound(0) of 10 bytes whose last one is 0", true, () -> y.isSound(0));
-        y.cut(0, 9);
-        Due.is("isSound(0) without that 0", false, () -> y.isSound(0));
-    }
-
-    /** 10 bytes that would be sound without the last one too, if they were enough then. */
-    private static OssuaryVault checkEndsIn0() {
-        OssuaryVault x = two();
-        x.cut(0, 10);
-        for (int data = 1; data <= 10; data++) {
-            for (int number = 0; number < data + 6; number++) {
-                for (int parity = Math.max(0, number + 1 - data); parity <= 6; parity++) {
-                    if (Rows.check(86, number, data, parity, 0, 0, 0, 0) % 256 == 0) {
-                        Rows.force(x, 0, 1, number, data, parity, 0, 0, 0, 0);
-                        return x;
-                    }
-                }
-            }
-        }
-        return x;
     }
 
     private static void firstByte() {
@@ -442,6 +421,7 @@ final class VolumesEdgesTest {
         }
         Due.is("isSound(0), all taken back", true, () -> x.isSound(0));
         x.spoil(0, 36, 1);
+        Due.is("isSound(0), its last byte changed", false, () -> x.isSound(0));
         x.sign(0);
         Due.is("isSound(0) signed", true, () -> x.isSound(0));
     }
@@ -475,10 +455,14 @@ final class VolumesEdgesTest {
     }
 
     private static void sameHead() {
-        differs("all the same", 3, 3, 2);
-        differs("another P", -1, 3, 3);
-        differs("another D", -1, 2, 10, 2, 0, 27, 1, 14);
-        differs("another stream with the same n", -1, 7, 53);
+        int[] leader = {8, 2, 0, 1, 0, 6};
+        heads("all the same", true, leader, leader);
+        heads("a greater D", false, leader, Rows.row(9, 2, 0, 1, 0, 6));
+        heads("a smaller D", false, leader, Rows.row(7, 2, 0, 1, 0, 6));
+        heads("a greater P", false, leader, Rows.row(8, 3, 0, 1, 0, 6));
+        heads("a smaller P", false, leader, Rows.row(8, 1, 0, 1, 0, 6));
+        heads("a longer stream", false, leader, Rows.row(8, 2, 0, 1, 0, 7));
+        heads("a shorter stream", false, leader, Rows.row(8, 2, 0, 1, 0, 5));
         OssuaryVault x = two();
         x.cut(3, 36);
         Rows.force(x, 3, 4, 0, 26, 0, 52);
@@ -487,14 +471,19 @@ final class VolumesEdgesTest {
         Due.is("present()", 3, () -> x.present());
     }
 
-    /** The leader is at 0; the volume at 3 is sound, and its head is told. */
-    private static void differs(String what, int want, int place, int... bytes) {
-        OssuaryVault x = two();
-        Rows.force(x, 3, place, bytes);
-        Due.is("isSound(3) with " + what, true, () -> x.isSound(3));
-        Due.is("numberOf(3) with " + what, want, () -> x.numberOf(3));
-        Due.is("present() with " + what, want < 0 ? 3 : 4, () -> x.present());
+    /** Two volumes whose D, P, n and bytes of the stream are these, sound both. */
+    private static void heads(String what, boolean same, int[] leader, int[] other) {
+        OssuaryVault x = new OssuaryVault();
+        x.build(8, 0);
+        for (int i = 2; i < 8; i++) {
+            x.lose(i);
+        }
+        Rows.force(x, 0, 2, leader);
+        Rows.force(x, 1, 2, other);
+        Due.is("isSound(1) with " + what, true, () -> x.isSound(1));
         Due.is("leader() with " + what, 0, () -> x.leader());
+        Due.is("numberOf(1) with " + what, same ? 1 : -1, () -> x.numberOf(1));
+        Due.is("present() with " + what, same ? 2 : 1, () -> x.present());
     }
 
     private static void firstOfNumber() {
