@@ -578,10 +578,9 @@ public final class OssuaryVault {
 
         Field() {
             int element = 1;
-            for (int i = 0; i < ORDER; i++) {
+            for (int i = 0; i < powers.length; i++) {
                 powers[i] = element;
-                powers[i + ORDER] = element;
-                logs[element & 255] = i;
+                logs[element & 255] = i % ORDER;
                 element = element * 2 < 256 ? element * 2 : element * 2 ^ MODULUS;
             }
         }
@@ -590,18 +589,22 @@ public final class OssuaryVault {
             if (a == 0 || b == 0) {
                 return 0;
             }
-            return powers[logs[a & 255] + logs[b & 255]];
+            return twoRaised(logs[a & 255] + logs[b & 255]);
+        }
+
+        private int twoRaised(int log) {
+            return log >= 0 && log < powers.length ? powers[log] : 0;
         }
 
         int oneOver(int a) {
-            return a == 0 ? 0 : powers[ORDER - logs[a & 255]];
+            return a == 0 ? 0 : twoRaised(ORDER - logs[a & 255]);
         }
 
         int raised(int a, int n) {
             if (n <= 0) {
                 return 1;
             }
-            return a == 0 ? 0 : powers[logs[a & 255] * n % ORDER];
+            return a == 0 ? 0 : twoRaised(logs[a & 255] * n % ORDER);
         }
 
         int parityWeight(int j, int d) {
@@ -769,27 +772,38 @@ public final class OssuaryVault {
         }
 
         private int placeFor(int key) {
-            int place = 0;
-            while (place < count && slots[place].key < key) {
-                place++;
+            for (int i = 0; i < count; i++) {
+                DeskFile one = at(i);
+                if (one == null || one.key >= key) {
+                    return i;
+                }
             }
-            return place;
+            return count;
         }
 
         void put(int key, Bytes content) {
+            if (!hasRoomFor(key)) {
+                return;
+            }
             int place = placeFor(key);
             if (placeOf(key) < 0) {
-                if (count >= slots.length) {
-                    return;
-                }
-                DeskFile blank = slots[count];
                 for (int i = count; i > place; i--) {
-                    slots[i] = slots[i - 1];
+                    swap(i - 1, i);
                 }
-                slots[place] = blank;
                 count++;
             }
-            slots[place].fill(key, content, check);
+            DeskFile one = at(place);
+            if (one != null) {
+                one.fill(key, content, check);
+            }
+        }
+
+        private void swap(int place, int other) {
+            if (place >= 0 && place < slots.length && other >= 0 && other < slots.length) {
+                DeskFile one = slots[place];
+                slots[place] = slots[other];
+                slots[other] = one;
+            }
         }
 
         int takeOff(int key) {
@@ -800,16 +814,16 @@ public final class OssuaryVault {
             }
             count--;
             for (int i = place; i < count; i++) {
-                slots[i] = slots[i + 1];
+                swap(i, i + 1);
             }
-            slots[count] = gone;
             return gone.content.size();
         }
 
         int contentBytes() {
             int sum = 0;
             for (int i = 0; i < count; i++) {
-                sum += slots[i].content.size();
+                DeskFile one = at(i);
+                sum += one == null ? 0 : one.content.size();
             }
             return sum;
         }
@@ -817,7 +831,8 @@ public final class OssuaryVault {
         int streamSize() {
             int sum = STREAM_TAIL;
             for (int i = 0; i < count; i++) {
-                sum += slots[i].streamSize() + INDEX_ENTRY;
+                DeskFile one = at(i);
+                sum += one == null ? 0 : one.streamSize() + INDEX_ENTRY;
             }
             return sum;
         }
@@ -825,7 +840,10 @@ public final class OssuaryVault {
         Bytes writtenStream() {
             stream.clear();
             for (int i = 0; i < count; i++) {
-                slots[i].writeTo(stream);
+                DeskFile one = at(i);
+                if (one != null) {
+                    one.writeTo(stream);
+                }
             }
             int indexPlace = stream.size();
             writeIndex();
@@ -840,10 +858,13 @@ public final class OssuaryVault {
         private void writeIndex() {
             int place = 0;
             for (int i = 0; i < count; i++) {
-                stream.addWord(slots[i].key);
-                stream.addWord(place);
-                stream.addWord(slots[i].content.size());
-                place += slots[i].streamSize();
+                DeskFile one = at(i);
+                if (one != null) {
+                    stream.addWord(one.key);
+                    stream.addWord(place);
+                    stream.addWord(one.content.size());
+                    place += one.streamSize();
+                }
             }
         }
     }
@@ -1031,7 +1052,7 @@ public final class OssuaryVault {
                 return;
             }
             int number = one.number();
-            if (number < holders.length && holders[number] < 0) {
+            if (place < numbers.length && number < holders.length && holders[number] < 0) {
                 holders[number] = place;
                 numbers[place] = number;
                 members++;
@@ -1240,7 +1261,10 @@ public final class OssuaryVault {
 
         void judgeFiles() {
             for (int i = 0; i < count; i++) {
-                entries[i].good = readsWell(entries[i]);
+                FoundFile one = at(i);
+                if (one != null) {
+                    one.good = readsWell(one);
+                }
             }
         }
 
@@ -1262,10 +1286,12 @@ public final class OssuaryVault {
             count = Math.min(stream.at(tail + 1), entries.length);
             for (int i = 0; i < count; i++) {
                 int entry = index + i * INDEX_ENTRY;
-                FoundFile one = entries[i];
-                one.key = stream.word(entry);
-                one.place = stream.word(entry + 2);
-                one.lengthTold = stream.word(entry + 4);
+                FoundFile one = at(i);
+                if (one != null) {
+                    one.key = stream.word(entry);
+                    one.place = stream.word(entry + 2);
+                    one.lengthTold = stream.word(entry + 4);
+                }
             }
         }
 

@@ -1,8 +1,10 @@
 import java.nio.file.Files;
 import java.nio.file.Path;
+import java.util.ArrayList;
 import java.util.LinkedHashMap;
 import java.util.List;
 import java.util.Map;
+import java.util.TreeSet;
 import java.util.regex.Matcher;
 import java.util.regex.Pattern;
 
@@ -34,6 +36,8 @@ final class LanguageTest {
             Due.is("rule " + rule.getKey(), "none", () -> first(rule.getValue(), code));
         }
         Due.is("signs above 127", "none", () -> first("[^\\x00-\\x7F]", text));
+        Due.is("rule 7: an index that its own method does not look at", "[]",
+                () -> unseenIndices(code).toString());
         Due.is("rule 11: the longest method is short", true, () -> longestMethod(code) <= 60);
         Due.end("LanguageTest");
     }
@@ -43,8 +47,44 @@ final class LanguageTest {
         return m.find() ? m.group() : "none";
     }
 
+    /** Each index stands in a method that tests it, or is cut to a byte where it is used. */
+    private static List<String> unseenIndices(String code) {
+        TreeSet<String> rows = new TreeSet<>();
+        Matcher declared = Pattern.compile("\\[\\] (\\w+)(?: =|;)").matcher(code);
+        while (declared.find()) {
+            rows.add(declared.group(1));
+        }
+        Pattern use = Pattern.compile("\\b(" + String.join("|", rows) + ")\\[(.*?)\\]");
+        List<String> unseen = new ArrayList<>();
+        for (String method : methods(code)) {
+            Matcher m = use.matcher(method);
+            while (m.find()) {
+                if (!isLookedAt(m.group(1), m.group(2), method)) {
+                    unseen.add(m.group());
+                }
+            }
+        }
+        return unseen;
+    }
+
+    private static boolean isLookedAt(String row, String index, String method) {
+        if (index.contains("[")) {
+            return false;
+        }
+        return index.endsWith("& 255") || method.contains(index + " < " + row + ".length")
+                || method.contains(index + " < PLACES") || method.contains("at(" + index + ")");
+    }
+
     private static int longestMethod(String code) {
         int longest = 0;
+        for (String method : methods(code)) {
+            longest = Math.max(longest, (int) method.lines().count());
+        }
+        return longest;
+    }
+
+    private static List<String> methods(String code) {
+        List<String> all = new ArrayList<>();
         int start = 0;
         List<String> lines = code.lines().toList();
         for (int i = 0; i < lines.size(); i++) {
@@ -53,10 +93,10 @@ final class LanguageTest {
                 start = i;
             }
             if (line.matches(" {4}(?: {4})?\\}") && start > 0) {
-                longest = Math.max(longest, i - start + 1);
+                all.add(String.join("\n", lines.subList(start, i + 1)));
                 start = 0;
             }
         }
-        return longest;
+        return all;
     }
 }
